@@ -1957,20 +1957,19 @@ public final class Zetaposet {
         }
       }
       int taken = Math.min(machines, Integer.bitCount(ready));
-      if (taken == Integer.bitCount(ready)) {
-        noteSteps(done | ready, steps[done] + 1);
-        return;
-      }
-      for (int some = ready; some > 0; some = (some - 1) & ready) {
-        if (Integer.bitCount(some) == taken) {
-          noteSteps(done | some, steps[done] + 1);
-        }
-      }
+      choose(steps, ready, done, 0, taken, steps[done] + 1);
     }
 
-    private void noteSteps(int done, int many) {
-      if (steps[done] < 0 || many < steps[done]) {
-        steps[done] = many;
+    /** Notes what is done with so many more of those that are ready, from an element on. */
+    private static void choose(int[] steps, int ready, int done, int from, int more, int many) {
+      if (more <= 0) {
+        steps[done] = steps[done] < 0 ? many : Math.min(steps[done], many);
+        return;
+      }
+      for (int x = from; x < MOST_ELEMENTS && Integer.bitCount(ready >> x) >= more; x++) {
+        if ((ready >> x & 1) != 0) {
+          choose(steps, ready, done | 1 << x, x + 1, more - 1, many);
+        }
       }
     }
   }

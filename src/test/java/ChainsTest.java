@@ -38,10 +38,12 @@ public final class ChainsTest {
     check.is("18: {0,2}, not {1,3}", z.antichain(5), 5);
     z.order(1);
     check.is("17: one", z.width(6), 1);
-    check.fails("17: order", INDEX, () -> z.width(7));
-    check.fails("17: negative", INDEX, () -> z.width(-1));
-    check.fails("18: order", INDEX, () -> z.antichain(7));
+    Orders.of(z, 4, "10 20 30");
+    check.is("18: without the first", z.antichain(7), Orders.set(1, 2, 3));
+    check.fails("18: order", INDEX, () -> z.antichain(8));
     check.fails("18: negative", INDEX, () -> z.antichain(-1));
+    check.fails("17: order", INDEX, () -> z.width(8));
+    check.fails("17: negative", INDEX, () -> z.width(-1));
   }
 
   private static void inChains() {
@@ -102,7 +104,9 @@ public final class ChainsTest {
     check.isTrue("21: the second way", z.isSymmetric(7));
     Orders.diamond(z);
     check.isTrue("21: two at the middle alone", z.isSymmetric(8));
-    check.fails("21: order", INDEX, () -> z.isSymmetric(9));
+    Orders.of(z, 4, "20 30 31");
+    check.isTrue("21: downwards", z.isSymmetric(9));
+    check.fails("21: order", INDEX, () -> z.isSymmetric(10));
     check.fails("21: negative", INDEX, () -> z.isSymmetric(-1));
   }
 
@@ -176,6 +180,7 @@ public final class ChainsTest {
     check.is("25: one, 0 to the power of 0", z.characteristic(3, 0), 1L);
     Orders.chain(z, 12);
     check.is("25: x^11-x^10 at -9", z.characteristic(4, -9), -34867844010L);
+    check.is("25: (x-1)^3 at 1", z.characteristic(0, 1), 0L);
     Orders.pentagon(z);
     check.fails("25: not ranked", UNSUPPORTED, () -> z.characteristic(5, 1));
     z.order(2);

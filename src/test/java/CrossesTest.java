@@ -168,6 +168,10 @@ public final class CrossesTest {
     z.table(1, 1);
     z.cross(0, 0, true);
     check.is("64: the rest is gone", implications(z), "0>1");
+    z.table(0, 2);
+    check.is("64: found anew", z.implicationAt(0, false), 3);
+    z.table(1, 2);
+    check.is("64: and anew", z.implicationAt(1, true), 2);
   }
 
   private static void explore() {
@@ -253,6 +257,20 @@ public final class CrossesTest {
     check.fails("68: a rule does not hold", UNSUPPORTED, () -> z.refuse(3));
     check.fails("68: what is asked first", ARGUMENT, () -> z.refuse(1));
     check.is("68: nothing changed", z.refuse(6), 2);
+
+    z.explore(4);
+    z.refuse(0);
+    z.refuse(3);
+    check.is("68: mark 0 has mark 1", z.question(false), 3);
+    z.accept();
+    z.refuse(2);
+    check.is("68: then mark 2", z.question(true), 4);
+    check.fails("68: has 0, not 1", UNSUPPORTED, () -> z.refuse(5));
+    check.is("68: has 0 and 1", z.refuse(7), 4);
+    check.is("68: still mark 2", z.question(false), 7);
+    check.is("68: has not 0", z.refuse(6), 5);
+    check.is("68: still", z.question(false), 6);
+    check.is("68: alone", z.refuse(4), 6);
   }
 
   private static void sixThings() {

@@ -152,9 +152,16 @@ public final class LatticesTest {
     check.is("40: one", z.congruences(4), 1);
     z.sum(1, 4, true);
     check.is("40: one put to the diamond", z.congruences(5), 4);
+    z.dual(2);
+    check.is("40: pentagon turned over", z.congruences(6), 5);
+    z.sum(2, 6, true);
+    check.is("40: two pentagons and a step", z.congruences(7), 50);
+    // To make 0 and 9 alike makes 1 and 8 so, then all that is between, then 2 and 0, and so on.
+    Orders.of(z, 10, "01 02 03 14 24 34 45 46 47 58 68 78 09 98");
+    check.is("40: two diamonds and a way past both", z.congruences(8), 2);
     z.order(2);
-    check.fails("40: no lattice", UNSUPPORTED, () -> z.congruences(6));
-    check.fails("40: order", INDEX, () -> z.congruences(7));
+    check.fails("40: no lattice", UNSUPPORTED, () -> z.congruences(9));
+    check.fails("40: order", INDEX, () -> z.congruences(10));
     check.fails("40: negative", INDEX, () -> z.congruences(-1));
   }
 
@@ -183,11 +190,17 @@ public final class LatticesTest {
     check.is("41: just 12", z.size(5), 12);
     Orders.chain(z, 12);
     check.fails("41: 13", ARGUMENT, () -> z.doubled(6, 3, 3));
+    Orders.of(z, 3, "21 10");
+    z.doubled(7, 2, 1);
+    // 0, 1, 1', 2, 2'
+    check.is("41: downwards, above 2", z.above(8, 3), Orders.set(0, 1, 2, 4));
+    check.is("41: downwards, above 2'", z.above(8, 4), Orders.set(0, 2));
+    check.is("41: downwards, above 1", z.above(8, 1), Orders.set(0, 2));
     check.fails("41: not at most", ARGUMENT, () -> z.doubled(0, 1, 2));
     check.fails("41: the wrong way", ARGUMENT, () -> z.doubled(0, 3, 0));
     check.fails("41: low", INDEX, () -> z.doubled(0, 4, 3));
     check.fails("41: high", INDEX, () -> z.doubled(0, 0, -1));
-    check.fails("41: order", INDEX, () -> z.doubled(7, 0, 0));
+    check.fails("41: order", INDEX, () -> z.doubled(9, 0, 0));
     Orders.fill(z);
     check.fails("41: 10 orders", STATE, () -> z.doubled(0, 0, 0));
     check.fails("41: the interval first", ARGUMENT, () -> z.doubled(0, 2, 1));
@@ -256,12 +269,16 @@ public final class LatticesTest {
     check.isTrue("44: all", z.areAlike(0, 2));
     z.part(0, 1);
     check.is("44: one", z.size(3), 1);
+    Orders.of(z, 4, "30 01");
+    z.part(4, Orders.set(0, 2, 3));
+    check.is("44: the first stays the first", z.above(5, 2), Orders.set(0));
+    check.is("44: what is between is not needed", z.above(5, 0), 0);
     check.fails("44: none", ARGUMENT, () -> z.part(0, 0));
     check.fails("44: no such ones", ARGUMENT, () -> z.part(0, 32));
     check.fails("44: some that are, some not", ARGUMENT, () -> z.part(0, 33));
     check.fails("44: negative", ARGUMENT, () -> z.part(0, -1));
     check.fails("44: the highest bit", ARGUMENT, () -> z.part(0, Integer.MIN_VALUE | 3));
-    check.fails("44: order", INDEX, () -> z.part(4, 0));
+    check.fails("44: order", INDEX, () -> z.part(6, 0));
     Orders.fill(z);
     check.fails("44: 10 orders", STATE, () -> z.part(0, 1));
     check.fails("44: the set first", ARGUMENT, () -> z.part(0, 0));

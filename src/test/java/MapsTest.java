@@ -91,6 +91,9 @@ public final class MapsTest {
     check.fails("52: too few", ARGUMENT, () -> z.adjoint(1, 0, 2));
     map(z, 0, 0, 5);
     check.fails("52: no value", ARGUMENT, () -> z.adjoint(0, 1, 4));
+    map(z, 0, 2, 2);
+    map(z, 0, 2);
+    check.fails("52: what was typed before is gone", ARGUMENT, () -> z.adjoint(0, 1, 4));
     check.fails("52: the first", INDEX, () -> z.adjoint(2, 0, 0));
     check.fails("52: the second", INDEX, () -> z.adjoint(0, 2, 0));
     check.fails("52: negative", INDEX, () -> z.adjoint(0, 1, -1));
@@ -143,7 +146,12 @@ public final class MapsTest {
     check.is("54: the lowest first, again and again", z.core(5), 8);
     z.order(1);
     check.is("54: one", z.core(6), 1);
-    check.fails("54: order", INDEX, () -> z.core(7));
+    // 0 covers two, and 1 alone covers it; all else follows, down to 5.
+    Orders.of(z, 6, "20 30 01 24 35 43");
+    check.is("54: covered by one only", z.core(7), 1 << 5);
+    Orders.of(z, 8, "04 05 14 15 42 43 52 53 60 61 70 71");
+    check.is("54: covers and is covered by two", z.core(8), 255);
+    check.fails("54: order", INDEX, () -> z.core(9));
     check.fails("54: negative", INDEX, () -> z.core(-1));
   }
 
@@ -216,6 +224,7 @@ public final class MapsTest {
     check.is("57: the chain goes first", z.schedule(3, 3), 3);
     Orders.of(z, 6, "34 45");
     check.is("57: two at a time", z.schedule(4, 2), 3);
+    check.is("57: as many as are ready", z.schedule(4, 4), 3);
     z.order(1);
     check.is("57: one", z.schedule(5, 7), 1);
     check.fails("57: none", ARGUMENT, () -> z.schedule(0, 0));

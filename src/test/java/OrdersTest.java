@@ -176,9 +176,12 @@ public final class OrdersTest {
     z.sum(5, 5, false);
     check.is("7: just 12", z.size(6), 12);
     check.fails("7: 13", ARGUMENT, () -> z.sum(6, z.order(1), false));
-    check.fails("7: the first", INDEX, () -> z.sum(8, 0, false));
+    Orders.of(z, 2, "10");
+    z.sum(8, 8, false);
+    check.is("7: downwards in the first", z.above(9, 1), Orders.set(0));
+    check.is("7: downwards in the second", z.above(9, 3), Orders.set(2));
+    check.fails("7: the first", INDEX, () -> z.sum(10, 0, false));
     check.fails("7: the second", INDEX, () -> z.sum(0, -1, false));
-    Orders.fill(z);
     check.fails("7: 10 orders", STATE, () -> z.sum(0, 0, false));
     check.fails("7: the size first", ARGUMENT, () -> z.sum(6, 6, true));
     check.fails("7: the order first", INDEX, () -> z.sum(6, 10, true));
@@ -200,9 +203,15 @@ public final class OrdersTest {
     check.fails("8: 16", ARGUMENT, () -> z.product(4, 0));
     Orders.chain(z, 12);
     check.fails("8: 144", ARGUMENT, () -> z.product(5, 5));
-    check.fails("8: the first", INDEX, () -> z.product(6, 0));
-    check.fails("8: the second", INDEX, () -> z.product(0, 6));
-    Orders.fill(z);
+    Orders.of(z, 2, "10");
+    z.product(6, 0);
+    check.is("8: downwards, above (1,0)", z.above(7, 2), Orders.set(0, 1, 3));
+    check.is("8: downwards, above (1,1)", z.above(7, 3), Orders.set(1));
+    z.order(1);
+    z.product(8, 5);
+    check.is("8: by one", z.above(9, 1), 4092);
+    check.fails("8: the first", INDEX, () -> z.product(10, 0));
+    check.fails("8: the second", INDEX, () -> z.product(0, 10));
     check.fails("8: 10 orders", STATE, () -> z.product(0, 0));
     check.fails("8: the size first", ARGUMENT, () -> z.product(2, 2));
     check.fails("8: the order first", INDEX, () -> z.product(-1, 2));
@@ -306,7 +315,11 @@ public final class OrdersTest {
     check.isTrue("15: one", z.isRanked(3));
     Orders.of(z, 4, "01 12 32");
     check.isFalse("15: a short way up", z.isRanked(4));
-    check.fails("15: order", INDEX, () -> z.isRanked(5));
+    Orders.of(z, 4, "12 20 30");
+    check.isFalse("15: a short way up to the first", z.isRanked(5));
+    Orders.of(z, 4, "32 21 01");
+    check.isFalse("15: a short way up from the first", z.isRanked(6));
+    check.fails("15: order", INDEX, () -> z.isRanked(7));
     check.fails("15: negative", INDEX, () -> z.isRanked(-1));
   }
 

@@ -1,12 +1,7 @@
-import java.lang.reflect.InvocationTargetException;
-import java.lang.reflect.Method;
-import java.util.Map;
-import java.util.TreeMap;
-
 /** Long runs of calls, each answered by the class and by the oracle, which tries all out. */
 public final class RandomTest {
-  // Each method with what its arguments are: o order, e element, i interval or relation of two
-  // elements, s set, r row, v value, n small number, k kind, m marks, b whether, x -9 to 9.
+  // Each method with what its arguments are: o order, e element, s set, r row, d divisible, v how
+  // many, n and N small numbers, k kind, b whether, x -9 to 9; each now and then far from that.
   private static final String[] CALLS = {
     "order N", "relate o e e", "divisors d", "subsets n", "dual o", "sum o o b", "product o o",
     "intervals o", "size o", "above o e", "covers o e", "rank o e", "isRanked o", "areAlike o o",
@@ -22,7 +17,6 @@ public final class RandomTest {
   };
 
   private static final Check check = new Check("RandomTest");
-  private static final Map<String, int[]> seen = new TreeMap<>();
   private static long state = 20261119;
 
   private static int pick(int many) {
@@ -30,55 +24,94 @@ public final class RandomTest {
     return (int) ((state >>> 33) % many);
   }
 
-  public static void main(String[] args) throws Exception {
+  public static void main(String[] args) {
     for (int run = 0; run < 900; run++) {
       run(run);
     }
     for (String call : CALLS) {
       String name = call.split(" ")[0];
-      check.isTrue(name + " was answered", seen.getOrDefault(name, new int[2])[0] > 0);
+      check.isTrue(name + " was answered", Both.ANSWERED.getOrDefault(name, 0) > 0);
     }
     check.end();
   }
 
-  private static void run(int run) throws Exception {
-    Zetaposet z = new Zetaposet();
-    Oracle oracle = new Oracle();
+  private static void run(int run) {
+    Both both = new Both(check, "run " + run);
     for (int i = 0; i < 512; i++) {
       int phase = pick(8);
-      if (phase == 0 && oracle.clearIsDue(pick(40))) {
-        answer(z, oracle, "clear", new Object[0], run);
+      if (phase == 0 && both.oracle.clearIsDue(pick(40))) {
+        both.ask("clear");
       } else if (phase == 1) {
-        growOrder(z, oracle, run);
+        growOrder(both);
       } else if (phase == 2 && run % 3 == 0) {
-        explore(z, oracle, run);
+        explore(both);
+      } else if (phase == 2 && run % 3 == 1 && pick(6) == 0) {
+        askTable(both);
+      } else if (phase == 2 && run % 3 == 2 && pick(6) == 0) {
+        askMap(both);
       } else {
         String[] words = CALLS[pick(CALLS.length)].split(" ");
-        answer(z, oracle, words[0], arguments(words, oracle), run);
+        both.ask(words[0], arguments(words, both.oracle));
       }
     }
   }
 
   /** Relates two elements of an order, mostly upwards, so that orders of all kinds come. */
-  private static void growOrder(Zetaposet z, Oracle oracle, int run) throws Exception {
+  private static void growOrder(Both both) {
     int order = pick(10);
-    int size = oracle.sizeOr(order, 3);
+    int size = both.oracle.sizeOr(order, 3);
     int one = pick(size);
     int other = pick(size);
     boolean isUp = pick(12) != 0;
-    Object[] arguments = {order, isUp ? Math.min(one, other) : one, Math.max(one, other)};
-    answer(z, oracle, "relate", arguments, run);
+    both.ask("relate", order, isUp ? Math.min(one, other) : one, Math.max(one, other));
   }
 
-  private static void explore(Zetaposet z, Oracle oracle, int run) throws Exception {
+  private static void explore(Both both) {
     int what = pick(6);
     if (what < 2) {
-      answer(z, oracle, "accept", new Object[0], run);
+      both.ask("accept");
     } else if (what < 5) {
-      Object[] arguments = {oracle.refusal(pick(64), pick(64))};
-      answer(z, oracle, "refuse", arguments, run);
+      both.ask("refuse", both.oracle.refusal(pick(64), pick(64)));
     } else {
-      answer(z, oracle, "explore", new Object[] {1 + pick(6)}, run);
+      both.ask("explore", 1 + pick(6));
+    }
+  }
+
+  private static void askTable(Both both) {
+    int things = pick(7);
+    int marks = 1 + pick(6);
+    int many = 1 + pick(4);
+    both.ask("table", things, marks);
+    for (int i = 0; i < things * marks; i++) {
+      both.ask("cross", i / marks, i % marks, pick(4) < many);
+    }
+    both.ask("implicationAt", 0, true);
+    both.ask("concepts");
+    for (int i = 0; i < 20; i++) {
+      both.ask("conceptAt", i, i % 3 == 0);
+      both.ask("implicationAt", i / 2, i % 2 == 0);
+    }
+    both.ask("conceptOrder");
+    both.ask("isSound");
+  }
+
+  private static void askMap(Both both) {
+    int order = pick(Math.max(1, both.oracle.count()));
+    int other = pick(3) == 0 ? order : pick(Math.max(1, both.oracle.count()));
+    int size = both.oracle.sizeOr(other, 12);
+    int style = pick(3);
+    int value = pick(size);
+    both.ask("wipe");
+    for (int x = 0; x < both.oracle.sizeOr(order, 3); x++) {
+      value = style == 0 ? pick(size) : Math.min(size - 1, value + (pick(3) == 0 ? 1 : 0));
+      value = style == 2 && x == 0 ? 0 : value;
+      both.ask("type", value);
+    }
+    both.ask("keeps", order, other);
+    both.ask("keeps", other, order);
+    for (int y = 0; y < size; y++) {
+      both.ask("adjoint", order, other, y);
+      both.ask("fixed", order, y);
     }
   }
 
@@ -119,29 +152,6 @@ public final class RandomTest {
         return isWild ? wild : pick(14);
       default:
         return isWild ? wild : pick(9) - 1;
-    }
-  }
-
-  private static Object call(Object target, String name, Object[] arguments) throws Exception {
-    for (Method method : target.getClass().getDeclaredMethods()) {
-      if (method.getName().equals(name)) {
-        try {
-          return method.invoke(target, arguments);
-        } catch (InvocationTargetException e) {
-          return e.getCause() instanceof Oracle.Skip ? e.getCause() : e.getCause().getClass();
-        }
-      }
-    }
-    throw new AssertionError("no such method: " + name);
-  }
-
-  private static void answer(Zetaposet z, Oracle oracle, String name, Object[] arguments, int run)
-      throws Exception {
-    Object due = call(oracle, name, arguments);
-    Object got = call(z, name, arguments);
-    if (!(due instanceof Oracle.Skip)) {
-      check.is("run " + run + ": " + name + java.util.Arrays.toString(arguments), got, due);
-      seen.computeIfAbsent(name, n -> new int[2])[due instanceof Class ? 1 : 0]++;
     }
   }
 }

@@ -61,6 +61,12 @@ public final class RankingsTest {
     check.is("70: the ring elsewhere", ranked(z, 3), "120:997");
     z.prefer(5, 0, 1);
     check.is("70: all", ranked(z, 6), "123450:997");
+    check.is("70: the lowest three after all", ranked(z, 3), "120:997");
+    Zetaposet y = new Zetaposet();
+    y.prefer(3, 4, 5);
+    y.prefer(4, 3, 6);
+    check.is("70: five", ranked(y, 5), "01243:5");
+    check.is("70: four after five", ranked(y, 4), "0123:0");
     check.fails("70: none", ARGUMENT, () -> z.ranking(0, 0));
     check.fails("70: seven", ARGUMENT, () -> z.ranking(7, 0));
     check.fails("70: place", INDEX, () -> z.ranking(3, 3));

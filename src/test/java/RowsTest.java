@@ -178,8 +178,21 @@ public final class RowsTest {
     check.fails("32: too many", UNSUPPORTED, () -> z.questions(7));
     z.order(1);
     check.is("32: one", z.questions(8), 0);
-    check.fails("32: order", INDEX, () -> z.questions(9));
+    z.order(2);
+    check.is("32: two", z.questions(9), 1);
+    check.fails("32: order", INDEX, () -> z.questions(10));
     check.fails("32: negative", INDEX, () -> z.questions(-1));
+    z.clear();
+    // Of these, no question halves all that are left again and again.
+    Orders.of(z, 6, "01 03 12 14 25 34 35");
+    check.is("32: 8 rows", z.rows(0), 8L);
+    check.is("32: one more than for 8 others", z.questions(0), 4);
+    Orders.of(z, 7, "01 12 16 25 34 45 46");
+    check.is("32: 26 rows", z.rows(1), 26L);
+    check.is("32: one more than for 26 others", z.questions(1), 6);
+    Orders.of(z, 6, "01 23 45");
+    z.sum(2, 2, true);
+    check.fails("32: far too many", UNSUPPORTED, () -> z.questions(3));
   }
 
   private static void dimension() {
@@ -196,6 +209,14 @@ public final class RowsTest {
     check.is("33: a crown", z.dimension(4), 3);
     Orders.pentagon(z);
     check.is("33: a pentagon", z.dimension(5), 2);
+    z.clear();
+    Orders.of(z, 6, "02 04 13 15 23 45");
+    check.is("33: three, of another kind", z.dimension(0), 3);
+    Orders.of(z, 6, "04 13 15 23 24");
+    check.is("33: a crown without a pair", z.dimension(1), 2);
+    for (int i = 2; i < 6; i++) {
+      z.order(1);
+    }
     z.order(7);
     check.fails("33: seven", UNSUPPORTED, () -> z.dimension(6));
     Orders.chain(z, 12);
@@ -221,7 +242,13 @@ public final class RowsTest {
     check.isTrue("34: one beside a part of it", z.isOfIntervals(4, true));
     Orders.of(z, 6, "01 12 23 45 04");
     check.isFalse("34: with more around", z.isOfIntervals(5, false));
-    check.fails("34: order", INDEX, () -> z.isOfIntervals(6, true));
+    Orders.of(z, 4, "10 32");
+    check.isFalse("34: downwards", z.isOfIntervals(6, false));
+    Orders.of(z, 4, "21 10");
+    check.isFalse("34: three downwards", z.isOfIntervals(7, true));
+    Orders.of(z, 4, "32 21");
+    check.isFalse("34: three beside the first", z.isOfIntervals(8, true));
+    check.fails("34: order", INDEX, () -> z.isOfIntervals(9, true));
     check.fails("34: negative", INDEX, () -> z.isOfIntervals(-1, false));
   }
 }
