@@ -66,9 +66,7 @@ public final class Zetaposet {
     for (int i = 0; i < many; i++) {
       sets[i] = i;
     }
-    Order made = begin(many);
-    Maker.makeBySets(made, sets);
-    return admit(made);
+    return addBySets(many);
   }
 
   public int dual(int order) throws IndexOutOfBoundsException, IllegalStateException {
@@ -287,11 +285,7 @@ public final class Zetaposet {
     Order o = find(order);
     needElement(o, one);
     needElement(o, other);
-    int found = Lattices.joinOf(o, one, other);
-    if (found < 0) {
-      throw new NoSuchElementException("no join");
-    }
-    return found;
+    return needFound(Lattices.joinOf(o, one, other));
   }
 
   public int meet(int order, int one, int other)
@@ -299,11 +293,7 @@ public final class Zetaposet {
     Order o = find(order);
     needElement(o, one);
     needElement(o, other);
-    int found = Lattices.meetOf(o, one, other);
-    if (found < 0) {
-      throw new NoSuchElementException("no meet");
-    }
-    return found;
+    return needFound(Lattices.meetOf(o, one, other));
   }
 
   public boolean isOfKind(int order, char kind)
@@ -349,20 +339,12 @@ public final class Zetaposet {
 
   public int ideals(int order)
       throws IndexOutOfBoundsException, IllegalArgumentException, IllegalStateException {
-    int many = Ideals.findIdeals(find(order), sets);
-    needRange(many, 1, MOST_ELEMENTS);
-    Order made = begin(many);
-    Maker.makeBySets(made, sets);
-    return admit(made);
+    return addBySets(Ideals.findIdeals(find(order), sets));
   }
 
   public int cuts(int order)
       throws IndexOutOfBoundsException, IllegalArgumentException, IllegalStateException {
-    int many = Ideals.findCuts(find(order), sets);
-    needRange(many, 1, MOST_ELEMENTS);
-    Order made = begin(many);
-    Maker.makeBySets(made, sets);
-    return admit(made);
+    return addBySets(Ideals.findCuts(find(order), sets));
   }
 
   public int part(int order, int elements)
@@ -435,10 +417,7 @@ public final class Zetaposet {
     if (!maps.isKeeping(one, two)) {
       throw new IllegalArgumentException("it does not keep the order");
     }
-    if (!maps.hasAdjoint(one, two)) {
-      throw new NoSuchElementException("no upper adjoint");
-    }
-    return maps.greatestUnder(one, two, element);
+    return needFound(maps.adjointAt(one, two, element));
   }
 
   public int fixed(int order, int element)
@@ -512,12 +491,9 @@ public final class Zetaposet {
     int many = crosses.countConcepts();
     needRange(many, 1, MOST_ELEMENTS);
     for (int i = 0; i < many; i++) {
-      int found = crosses.findConcept(i);
-      sets[i] = crosses.thingsWith(found);
+      sets[i] = crosses.thingsWith(crosses.findConcept(i));
     }
-    Order made = begin(many);
-    Maker.makeBySets(made, sets);
-    return admit(made);
+    return addBySets(many);
   }
 
   public int implications() {
@@ -683,12 +659,15 @@ public final class Zetaposet {
     }
   }
 
-  private int needQuestion() throws NoSuchElementException {
-    int asked = crosses.findQuestion();
-    if (asked < 0) {
-      throw new NoSuchElementException("no question");
+  private static int needFound(int found) throws NoSuchElementException {
+    if (found < 0) {
+      throw new NoSuchElementException("there is none");
     }
-    return asked;
+    return found;
+  }
+
+  private int needQuestion() throws NoSuchElementException {
+    return needFound(crosses.findQuestion());
   }
 
   /** The next order is begun last of all, so that a call that throws changes nothing. */
@@ -698,6 +677,14 @@ public final class Zetaposet {
     }
     hall[count].reset(elements);
     return hall[count];
+  }
+
+  /** Adds an order of the first sets that were put together, each below those that hold it. */
+  private int addBySets(int many) throws IllegalArgumentException, IllegalStateException {
+    needRange(many, 1, MOST_ELEMENTS);
+    Order made = begin(many);
+    Maker.makeBySets(made, sets);
+    return admit(made);
   }
 
   private int admit(Order made) {
@@ -2010,17 +1997,18 @@ public final class Zetaposet {
       return true;
     }
 
-    boolean hasAdjoint(Order one, Order two) {
+    /** A value of the upper adjoint, or -1 if there is none, be it for another element alone. */
+    int adjointAt(Order one, Order two, int element) {
       for (int y = 0; y < two.many; y++) {
         if (greatestUnder(one, two, y) < 0) {
-          return false;
+          return -1;
         }
       }
-      return true;
+      return greatestUnder(one, two, element);
     }
 
     /** The greatest element with a value at most this one, or -1. */
-    int greatestUnder(Order one, Order two, int most) {
+    private int greatestUnder(Order one, Order two, int most) {
       int under = 0;
       for (int x = 0; x < one.many; x++) {
         if (two.isAtMost(values[x], most)) {

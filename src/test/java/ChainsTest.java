@@ -1,9 +1,5 @@
 /** Promises 17 to 25: chains and antichains, and sums over intervals. */
 public final class ChainsTest {
-  private static final Class<IllegalArgumentException> ARGUMENT = IllegalArgumentException.class;
-  private static final Class<IndexOutOfBoundsException> INDEX = IndexOutOfBoundsException.class;
-  private static final Class<UnsupportedOperationException> UNSUPPORTED =
-      UnsupportedOperationException.class;
   private static final Check check = new Check("ChainsTest");
 
   public static void main(String[] args) {
@@ -40,10 +36,10 @@ public final class ChainsTest {
     check.is("17: one", z.width(6), 1);
     Orders.of(z, 4, "10 20 30");
     check.is("18: without the first", z.antichain(7), Orders.set(1, 2, 3));
-    check.fails("18: order", INDEX, () -> z.antichain(8));
-    check.fails("18: negative", INDEX, () -> z.antichain(-1));
-    check.fails("17: order", INDEX, () -> z.width(8));
-    check.fails("17: negative", INDEX, () -> z.width(-1));
+    check.fails("18: order", Check.INDEX, () -> z.antichain(8));
+    check.fails("18: negative", Check.INDEX, () -> z.antichain(-1));
+    check.fails("17: order", Check.INDEX, () -> z.width(8));
+    check.fails("17: negative", Check.INDEX, () -> z.width(-1));
   }
 
   private static void inChains() {
@@ -61,10 +57,10 @@ public final class ChainsTest {
     z.order(12);
     check.is("19: antichain", z.inChains(2, 5), 5);
     check.is("19: all of it", z.inChains(2, 12), 12);
-    check.fails("19: 13", ARGUMENT, () -> z.inChains(0, 13));
-    check.fails("19: negative", ARGUMENT, () -> z.inChains(0, -1));
-    check.fails("19: order", INDEX, () -> z.inChains(3, 1));
-    check.fails("19: the order first", INDEX, () -> z.inChains(-1, 13));
+    check.fails("19: 13", Check.ARGUMENT, () -> z.inChains(0, 13));
+    check.fails("19: negative", Check.ARGUMENT, () -> z.inChains(0, -1));
+    check.fails("19: order", Check.INDEX, () -> z.inChains(3, 1));
+    check.fails("19: the order first", Check.INDEX, () -> z.inChains(-1, 13));
   }
 
   private static void chains() {
@@ -78,8 +74,8 @@ public final class ChainsTest {
     check.is("20: subsets", z.chains(2), 51);
     Orders.of(z, 3, "20 01");
     check.is("20: not numbered upwards", z.chains(3), 7);
-    check.fails("20: order", INDEX, () -> z.chains(4));
-    check.fails("20: negative", INDEX, () -> z.chains(-1));
+    check.fails("20: order", Check.INDEX, () -> z.chains(4));
+    check.fails("20: negative", Check.INDEX, () -> z.chains(-1));
   }
 
   private static void isSymmetric() {
@@ -106,8 +102,8 @@ public final class ChainsTest {
     check.isTrue("21: two at the middle alone", z.isSymmetric(8));
     Orders.of(z, 4, "20 30 31");
     check.isTrue("21: downwards", z.isSymmetric(9));
-    check.fails("21: order", INDEX, () -> z.isSymmetric(10));
-    check.fails("21: negative", INDEX, () -> z.isSymmetric(-1));
+    check.fails("21: order", Check.INDEX, () -> z.isSymmetric(10));
+    check.fails("21: negative", Check.INDEX, () -> z.isSymmetric(-1));
   }
 
   private static void moebius() {
@@ -124,9 +120,9 @@ public final class ChainsTest {
     check.is("22: above", z.moebius(0, 11, 0), 0L);
     Orders.of(z, 12, "01 02 03 04 05 06 07 08 09 0a 1b 2b 3b 4b 5b 6b 7b 8b 9b ab");
     check.is("22: ten between", z.moebius(1, 0, 11), 9L);
-    check.fails("22: order", INDEX, () -> z.moebius(2, 0, 0));
-    check.fails("22: low", INDEX, () -> z.moebius(0, 12, 0));
-    check.fails("22: high", INDEX, () -> z.moebius(0, 0, -1));
+    check.fails("22: order", Check.INDEX, () -> z.moebius(2, 0, 0));
+    check.fails("22: low", Check.INDEX, () -> z.moebius(0, 12, 0));
+    check.fails("22: high", Check.INDEX, () -> z.moebius(0, 0, -1));
   }
 
   private static void rowsBetween() {
@@ -142,11 +138,11 @@ public final class ChainsTest {
     check.is("23: downwards", z.rowsBetween(0, 7, 0, 4), 0L);
     Orders.chain(z, 12);
     check.is("23: 19 over 8", z.rowsBetween(1, 0, 11, 9), 75582L);
-    check.fails("23: ten", ARGUMENT, () -> z.rowsBetween(0, 0, 0, 10));
-    check.fails("23: negative", ARGUMENT, () -> z.rowsBetween(0, 0, 0, -1));
-    check.fails("23: order", INDEX, () -> z.rowsBetween(2, 0, 0, 1));
-    check.fails("23: low", INDEX, () -> z.rowsBetween(0, -1, 0, 1));
-    check.fails("23: high", INDEX, () -> z.rowsBetween(0, 0, 8, 10));
+    check.fails("23: ten", Check.ARGUMENT, () -> z.rowsBetween(0, 0, 0, 10));
+    check.fails("23: negative", Check.ARGUMENT, () -> z.rowsBetween(0, 0, 0, -1));
+    check.fails("23: order", Check.INDEX, () -> z.rowsBetween(2, 0, 0, 1));
+    check.fails("23: low", Check.INDEX, () -> z.rowsBetween(0, -1, 0, 1));
+    check.fails("23: high", Check.INDEX, () -> z.rowsBetween(0, 0, 8, 10));
   }
 
   private static void euler() {
@@ -161,8 +157,8 @@ public final class ChainsTest {
     check.is("24: a sphere", z.euler(3), 1L);
     z.order(1);
     check.is("24: a point", z.euler(4), 0L);
-    check.fails("24: order", INDEX, () -> z.euler(5));
-    check.fails("24: negative", INDEX, () -> z.euler(-1));
+    check.fails("24: order", Check.INDEX, () -> z.euler(5));
+    check.fails("24: negative", Check.INDEX, () -> z.euler(-1));
   }
 
   private static void characteristic() {
@@ -182,12 +178,12 @@ public final class ChainsTest {
     check.is("25: x^11-x^10 at -9", z.characteristic(4, -9), -34867844010L);
     check.is("25: (x-1)^3 at 1", z.characteristic(0, 1), 0L);
     Orders.pentagon(z);
-    check.fails("25: not ranked", UNSUPPORTED, () -> z.characteristic(5, 1));
+    check.fails("25: not ranked", Check.UNSUPPORTED, () -> z.characteristic(5, 1));
     z.order(2);
-    check.fails("25: no least one", UNSUPPORTED, () -> z.characteristic(6, 1));
-    check.fails("25: 10", ARGUMENT, () -> z.characteristic(0, 10));
-    check.fails("25: -10", ARGUMENT, () -> z.characteristic(0, -10));
-    check.fails("25: the range first", ARGUMENT, () -> z.characteristic(6, 10));
-    check.fails("25: order", INDEX, () -> z.characteristic(7, 10));
+    check.fails("25: no least one", Check.UNSUPPORTED, () -> z.characteristic(6, 1));
+    check.fails("25: 10", Check.ARGUMENT, () -> z.characteristic(0, 10));
+    check.fails("25: -10", Check.ARGUMENT, () -> z.characteristic(0, -10));
+    check.fails("25: the range first", Check.ARGUMENT, () -> z.characteristic(6, 10));
+    check.fails("25: order", Check.INDEX, () -> z.characteristic(7, 10));
   }
 }

@@ -1,5 +1,14 @@
+import java.util.NoSuchElementException;
+
 /** Counts what is checked; a test ends with exit code 1 if anything was wrong. */
 final class Check {
+  static final Class<IllegalArgumentException> ARGUMENT = IllegalArgumentException.class;
+  static final Class<IllegalStateException> STATE = IllegalStateException.class;
+  static final Class<IndexOutOfBoundsException> INDEX = IndexOutOfBoundsException.class;
+  static final Class<NoSuchElementException> NONE = NoSuchElementException.class;
+  static final Class<UnsupportedOperationException> UNSUPPORTED =
+      UnsupportedOperationException.class;
+
   interface Call {
     Object run();
   }

@@ -1,13 +1,5 @@
-import java.util.NoSuchElementException;
-
 /** Promises 35 to 48: lattices, ideals, cuts and parts. */
 public final class LatticesTest {
-  private static final Class<IllegalArgumentException> ARGUMENT = IllegalArgumentException.class;
-  private static final Class<IllegalStateException> STATE = IllegalStateException.class;
-  private static final Class<IndexOutOfBoundsException> INDEX = IndexOutOfBoundsException.class;
-  private static final Class<NoSuchElementException> NONE = NoSuchElementException.class;
-  private static final Class<UnsupportedOperationException> UNSUPPORTED =
-      UnsupportedOperationException.class;
   private static final Check check = new Check("LatticesTest");
 
   public static void main(String[] args) {
@@ -44,8 +36,8 @@ public final class LatticesTest {
     check.isFalse("35: no meet", z.isLattice(5));
     Orders.pentagon(z);
     check.isTrue("35: pentagon", z.isLattice(6));
-    check.fails("35: order", INDEX, () -> z.isLattice(7));
-    check.fails("35: negative", INDEX, () -> z.isLattice(-1));
+    check.fails("35: order", Check.INDEX, () -> z.isLattice(7));
+    check.fails("35: negative", Check.INDEX, () -> z.isLattice(-1));
   }
 
   private static void join() {
@@ -55,14 +47,14 @@ public final class LatticesTest {
     check.is("36: of 2 and 10", z.join(0, 1, 6), 6);
     check.is("36: the same", z.join(0, 4, 4), 4);
     Orders.of(z, 6, "01 02 13 14 23 24 35 45");
-    check.fails("36: two least ones", NONE, () -> z.join(1, 1, 2));
+    check.fails("36: two least ones", Check.NONE, () -> z.join(1, 1, 2));
     check.is("36: yet the others", z.join(1, 3, 4), 5);
     z.order(2);
-    check.fails("36: nothing above", NONE, () -> z.join(2, 0, 1));
+    check.fails("36: nothing above", Check.NONE, () -> z.join(2, 0, 1));
     check.is("36: alone", z.join(2, 1, 1), 1);
-    check.fails("36: order", INDEX, () -> z.join(3, 0, 0));
-    check.fails("36: one", INDEX, () -> z.join(2, 2, 0));
-    check.fails("36: other", INDEX, () -> z.join(2, 0, -1));
+    check.fails("36: order", Check.INDEX, () -> z.join(3, 0, 0));
+    check.fails("36: one", Check.INDEX, () -> z.join(2, 2, 0));
+    check.fails("36: other", Check.INDEX, () -> z.join(2, 0, -1));
   }
 
   private static void meet() {
@@ -72,14 +64,14 @@ public final class LatticesTest {
     check.is("37: of 2 and 10", z.meet(0, 6, 1), 1);
     check.is("37: the same", z.meet(0, 4, 4), 4);
     Orders.of(z, 6, "01 02 13 14 23 24 35 45");
-    check.fails("37: two greatest ones", NONE, () -> z.meet(1, 3, 4));
+    check.fails("37: two greatest ones", Check.NONE, () -> z.meet(1, 3, 4));
     check.is("37: yet the others", z.meet(1, 1, 2), 0);
     z.order(2);
-    check.fails("37: nothing below", NONE, () -> z.meet(2, 0, 1));
+    check.fails("37: nothing below", Check.NONE, () -> z.meet(2, 0, 1));
     check.is("37: alone", z.meet(2, 1, 1), 1);
-    check.fails("37: order", INDEX, () -> z.meet(3, 0, 0));
-    check.fails("37: one", INDEX, () -> z.meet(2, -1, 0));
-    check.fails("37: other", INDEX, () -> z.meet(2, 0, 2));
+    check.fails("37: order", Check.INDEX, () -> z.meet(3, 0, 0));
+    check.fails("37: one", Check.INDEX, () -> z.meet(2, -1, 0));
+    check.fails("37: other", Check.INDEX, () -> z.meet(2, 0, 2));
   }
 
   private static void kinds(Zetaposet z, int order, String name, String due) {
@@ -114,11 +106,11 @@ public final class LatticesTest {
     Orders.of(z, 8, "01 02 03 04 15 25 36 46 57 67");
     kinds(z, 8, "two lines apart", "---");
     z.order(2);
-    check.fails("38: no lattice", UNSUPPORTED, () -> z.isOfKind(9, 'd'));
-    check.fails("38: kind", ARGUMENT, () -> z.isOfKind(0, 'x'));
-    check.fails("38: capital", ARGUMENT, () -> z.isOfKind(0, 'D'));
-    check.fails("38: the kind first", ARGUMENT, () -> z.isOfKind(9, (char) 0));
-    check.fails("38: order", INDEX, () -> z.isOfKind(10, 'x'));
+    check.fails("38: no lattice", Check.UNSUPPORTED, () -> z.isOfKind(9, 'd'));
+    check.fails("38: kind", Check.ARGUMENT, () -> z.isOfKind(0, 'x'));
+    check.fails("38: capital", Check.ARGUMENT, () -> z.isOfKind(0, 'D'));
+    check.fails("38: the kind first", Check.ARGUMENT, () -> z.isOfKind(9, (char) 0));
+    check.fails("38: order", Check.INDEX, () -> z.isOfKind(10, 'x'));
   }
 
   private static void joined() {
@@ -133,9 +125,9 @@ public final class LatticesTest {
     z.order(1);
     check.is("39: one", z.joined(3), 0);
     z.order(3);
-    check.fails("39: no lattice", UNSUPPORTED, () -> z.joined(4));
-    check.fails("39: order", INDEX, () -> z.joined(5));
-    check.fails("39: negative", INDEX, () -> z.joined(-1));
+    check.fails("39: no lattice", Check.UNSUPPORTED, () -> z.joined(4));
+    check.fails("39: order", Check.INDEX, () -> z.joined(5));
+    check.fails("39: negative", Check.INDEX, () -> z.joined(-1));
   }
 
   private static void congruences() {
@@ -160,9 +152,9 @@ public final class LatticesTest {
     Orders.of(z, 10, "01 02 03 14 24 34 45 46 47 58 68 78 09 98");
     check.is("40: two diamonds and a way past both", z.congruences(8), 2);
     z.order(2);
-    check.fails("40: no lattice", UNSUPPORTED, () -> z.congruences(9));
-    check.fails("40: order", INDEX, () -> z.congruences(10));
-    check.fails("40: negative", INDEX, () -> z.congruences(-1));
+    check.fails("40: no lattice", Check.UNSUPPORTED, () -> z.congruences(9));
+    check.fails("40: order", Check.INDEX, () -> z.congruences(10));
+    check.fails("40: negative", Check.INDEX, () -> z.congruences(-1));
   }
 
   private static void doubled() {
@@ -189,22 +181,22 @@ public final class LatticesTest {
     z.doubled(4, 0, 5);
     check.is("41: just 12", z.size(5), 12);
     Orders.chain(z, 12);
-    check.fails("41: 13", ARGUMENT, () -> z.doubled(6, 3, 3));
+    check.fails("41: 13", Check.ARGUMENT, () -> z.doubled(6, 3, 3));
     Orders.of(z, 3, "21 10");
     z.doubled(7, 2, 1);
     // 0, 1, 1', 2, 2'
     check.is("41: downwards, above 2", z.above(8, 3), Orders.set(0, 1, 2, 4));
     check.is("41: downwards, above 2'", z.above(8, 4), Orders.set(0, 2));
     check.is("41: downwards, above 1", z.above(8, 1), Orders.set(0, 2));
-    check.fails("41: not at most", ARGUMENT, () -> z.doubled(0, 1, 2));
-    check.fails("41: the wrong way", ARGUMENT, () -> z.doubled(0, 3, 0));
-    check.fails("41: low", INDEX, () -> z.doubled(0, 4, 3));
-    check.fails("41: high", INDEX, () -> z.doubled(0, 0, -1));
-    check.fails("41: order", INDEX, () -> z.doubled(9, 0, 0));
+    check.fails("41: not at most", Check.ARGUMENT, () -> z.doubled(0, 1, 2));
+    check.fails("41: the wrong way", Check.ARGUMENT, () -> z.doubled(0, 3, 0));
+    check.fails("41: low", Check.INDEX, () -> z.doubled(0, 4, 3));
+    check.fails("41: high", Check.INDEX, () -> z.doubled(0, 0, -1));
+    check.fails("41: order", Check.INDEX, () -> z.doubled(9, 0, 0));
     Orders.fill(z);
-    check.fails("41: 10 orders", STATE, () -> z.doubled(0, 0, 0));
-    check.fails("41: the interval first", ARGUMENT, () -> z.doubled(0, 2, 1));
-    check.fails("41: the element first", INDEX, () -> z.doubled(0, 4, 4));
+    check.fails("41: 10 orders", Check.STATE, () -> z.doubled(0, 0, 0));
+    check.fails("41: the interval first", Check.ARGUMENT, () -> z.doubled(0, 2, 1));
+    check.fails("41: the element first", Check.INDEX, () -> z.doubled(0, 4, 4));
   }
 
   private static void ideals() {
@@ -221,14 +213,14 @@ public final class LatticesTest {
     z.ideals(2);
     check.is("42: just 12", z.size(3), 12);
     Orders.chain(z, 12);
-    check.fails("42: 13", ARGUMENT, () -> z.ideals(4));
+    check.fails("42: 13", Check.ARGUMENT, () -> z.ideals(4));
     z.order(12);
-    check.fails("42: 4096", ARGUMENT, () -> z.ideals(5));
-    check.fails("42: order", INDEX, () -> z.ideals(6));
+    check.fails("42: 4096", Check.ARGUMENT, () -> z.ideals(5));
+    check.fails("42: order", Check.INDEX, () -> z.ideals(6));
     Orders.fill(z);
-    check.fails("42: 10 orders", STATE, () -> z.ideals(0));
-    check.fails("42: the size first", ARGUMENT, () -> z.ideals(4));
-    check.fails("42: the order first", INDEX, () -> z.ideals(-1));
+    check.fails("42: 10 orders", Check.STATE, () -> z.ideals(0));
+    check.fails("42: the size first", Check.ARGUMENT, () -> z.ideals(4));
+    check.fails("42: the order first", Check.INDEX, () -> z.ideals(-1));
   }
 
   private static void cuts() {
@@ -250,12 +242,12 @@ public final class LatticesTest {
     z.cuts(6);
     check.is("43: just 12", z.size(7), 12);
     z.order(11);
-    check.fails("43: 13", ARGUMENT, () -> z.cuts(8));
-    check.fails("43: order", INDEX, () -> z.cuts(9));
+    check.fails("43: 13", Check.ARGUMENT, () -> z.cuts(8));
+    check.fails("43: order", Check.INDEX, () -> z.cuts(9));
     Orders.fill(z);
-    check.fails("43: 10 orders", STATE, () -> z.cuts(0));
-    check.fails("43: the size first", ARGUMENT, () -> z.cuts(8));
-    check.fails("43: the order first", INDEX, () -> z.cuts(-1));
+    check.fails("43: 10 orders", Check.STATE, () -> z.cuts(0));
+    check.fails("43: the size first", Check.ARGUMENT, () -> z.cuts(8));
+    check.fails("43: the order first", Check.INDEX, () -> z.cuts(-1));
   }
 
   private static void part() {
@@ -273,16 +265,16 @@ public final class LatticesTest {
     z.part(4, Orders.set(0, 2, 3));
     check.is("44: the first stays the first", z.above(5, 2), Orders.set(0));
     check.is("44: what is between is not needed", z.above(5, 0), 0);
-    check.fails("44: none", ARGUMENT, () -> z.part(0, 0));
-    check.fails("44: no such ones", ARGUMENT, () -> z.part(0, 32));
-    check.fails("44: some that are, some not", ARGUMENT, () -> z.part(0, 33));
-    check.fails("44: negative", ARGUMENT, () -> z.part(0, -1));
-    check.fails("44: the highest bit", ARGUMENT, () -> z.part(0, Integer.MIN_VALUE | 3));
-    check.fails("44: order", INDEX, () -> z.part(6, 0));
+    check.fails("44: none", Check.ARGUMENT, () -> z.part(0, 0));
+    check.fails("44: no such ones", Check.ARGUMENT, () -> z.part(0, 32));
+    check.fails("44: some that are, some not", Check.ARGUMENT, () -> z.part(0, 33));
+    check.fails("44: negative", Check.ARGUMENT, () -> z.part(0, -1));
+    check.fails("44: the highest bit", Check.ARGUMENT, () -> z.part(0, Integer.MIN_VALUE | 3));
+    check.fails("44: order", Check.INDEX, () -> z.part(6, 0));
     Orders.fill(z);
-    check.fails("44: 10 orders", STATE, () -> z.part(0, 1));
-    check.fails("44: the set first", ARGUMENT, () -> z.part(0, 0));
-    check.fails("44: the order first", INDEX, () -> z.part(-1, 0));
+    check.fails("44: 10 orders", Check.STATE, () -> z.part(0, 1));
+    check.fails("44: the set first", Check.ARGUMENT, () -> z.part(0, 0));
+    check.fails("44: the order first", Check.INDEX, () -> z.part(-1, 0));
   }
 
   private static void idealCount() {
@@ -293,8 +285,8 @@ public final class LatticesTest {
     check.is("45: chain", z.idealCount(1), 13);
     z.subsets(3);
     check.is("45: subsets", z.idealCount(2), 20);
-    check.fails("45: order", INDEX, () -> z.idealCount(3));
-    check.fails("45: negative", INDEX, () -> z.idealCount(-1));
+    check.fails("45: order", Check.INDEX, () -> z.idealCount(3));
+    check.fails("45: negative", Check.INDEX, () -> z.idealCount(-1));
   }
 
   private static void toggle() {
@@ -304,13 +296,13 @@ public final class LatticesTest {
     check.is("46: out", z.toggle(0, 5, 2), 1);
     check.is("46: not in", z.toggle(0, 4, 1), 4);
     check.is("46: not out", z.toggle(0, 3, 0), 3);
-    check.fails("46: no ideal", ARGUMENT, () -> z.toggle(0, 2, 0));
-    check.fails("46: no such elements", ARGUMENT, () -> z.toggle(0, 8, 0));
-    check.fails("46: negative", ARGUMENT, () -> z.toggle(0, -1, 0));
-    check.fails("46: element", INDEX, () -> z.toggle(0, 0, 3));
-    check.fails("46: negative element", INDEX, () -> z.toggle(0, 0, -1));
-    check.fails("46: the element first", INDEX, () -> z.toggle(0, 2, 3));
-    check.fails("46: order", INDEX, () -> z.toggle(1, 0, 0));
+    check.fails("46: no ideal", Check.ARGUMENT, () -> z.toggle(0, 2, 0));
+    check.fails("46: no such elements", Check.ARGUMENT, () -> z.toggle(0, 8, 0));
+    check.fails("46: negative", Check.ARGUMENT, () -> z.toggle(0, -1, 0));
+    check.fails("46: element", Check.INDEX, () -> z.toggle(0, 0, 3));
+    check.fails("46: negative element", Check.INDEX, () -> z.toggle(0, 0, -1));
+    check.fails("46: the element first", Check.INDEX, () -> z.toggle(0, 2, 3));
+    check.fails("46: order", Check.INDEX, () -> z.toggle(1, 0, 0));
   }
 
   private static void turn() {
@@ -321,10 +313,10 @@ public final class LatticesTest {
     check.is("47: of all", z.turn(0, 255), 0);
     // Not in it: 2, 3, 4, .. ; the least of them 2 and 4, so that 1 is left out.
     check.is("47: one goes out", z.turn(0, 3), Orders.set(0, 2, 4));
-    check.fails("47: no ideal", ARGUMENT, () -> z.turn(0, 2));
-    check.fails("47: no such elements", ARGUMENT, () -> z.turn(0, 256));
-    check.fails("47: negative", ARGUMENT, () -> z.turn(0, Integer.MIN_VALUE));
-    check.fails("47: order", INDEX, () -> z.turn(1, 2));
+    check.fails("47: no ideal", Check.ARGUMENT, () -> z.turn(0, 2));
+    check.fails("47: no such elements", Check.ARGUMENT, () -> z.turn(0, 256));
+    check.fails("47: negative", Check.ARGUMENT, () -> z.turn(0, Integer.MIN_VALUE));
+    check.fails("47: order", Check.INDEX, () -> z.turn(1, 2));
   }
 
   private static void orbit() {
@@ -340,9 +332,9 @@ public final class LatticesTest {
     check.is("48: its sum is half of all", z.orbit(2, 0, true), 20);
     Orders.of(z, 5, "01 23 34");
     check.is("48: two chains", z.orbit(3, 0, false), 12);
-    check.fails("48: no ideal", ARGUMENT, () -> z.orbit(0, 2, true));
-    check.fails("48: no such elements", ARGUMENT, () -> z.orbit(0, 4096, false));
-    check.fails("48: order", INDEX, () -> z.orbit(4, 2, false));
-    check.fails("48: negative", INDEX, () -> z.orbit(-1, 0, false));
+    check.fails("48: no ideal", Check.ARGUMENT, () -> z.orbit(0, 2, true));
+    check.fails("48: no such elements", Check.ARGUMENT, () -> z.orbit(0, 4096, false));
+    check.fails("48: order", Check.INDEX, () -> z.orbit(4, 2, false));
+    check.fails("48: negative", Check.INDEX, () -> z.orbit(-1, 0, false));
   }
 }

@@ -1,13 +1,5 @@
-import java.util.NoSuchElementException;
-
 /** Promises 49 to 57: maps, cores, embeddings and schedules. */
 public final class MapsTest {
-  private static final Class<IllegalArgumentException> ARGUMENT = IllegalArgumentException.class;
-  private static final Class<IllegalStateException> STATE = IllegalStateException.class;
-  private static final Class<IndexOutOfBoundsException> INDEX = IndexOutOfBoundsException.class;
-  private static final Class<NoSuchElementException> NONE = NoSuchElementException.class;
-  private static final Class<UnsupportedOperationException> UNSUPPORTED =
-      UnsupportedOperationException.class;
   private static final Check check = new Check("MapsTest");
 
   public static void main(String[] args) {
@@ -34,13 +26,13 @@ public final class MapsTest {
     check.is("50: none", z.wipe(), 0);
     check.is("49: first", z.type(0), 1);
     check.is("49: greatest value", z.type(11), 2);
-    check.fails("49: 12", ARGUMENT, () -> z.type(12));
-    check.fails("49: negative", ARGUMENT, () -> z.type(-1));
+    check.fails("49: 12", Check.ARGUMENT, () -> z.type(12));
+    check.fails("49: negative", Check.ARGUMENT, () -> z.type(-1));
     for (int i = 3; i <= 12; i++) {
       check.is("49: one more", z.type(5), i);
     }
-    check.fails("49: there are 12", STATE, () -> z.type(5));
-    check.fails("49: the range first", ARGUMENT, () -> z.type(12));
+    check.fails("49: there are 12", Check.STATE, () -> z.type(5));
+    check.fails("49: the range first", Check.ARGUMENT, () -> z.type(12));
     check.is("50: all", z.wipe(), 12);
     check.is("50: none then", z.wipe(), 0);
     check.is("49: anew", z.type(3), 1);
@@ -59,17 +51,17 @@ public final class MapsTest {
     check.isFalse("51: turned over", z.keeps(0, 0));
     map(z, 0, 0, 2, 2);
     check.isTrue("51: the other way", z.keeps(1, 0));
-    check.fails("51: too many", ARGUMENT, () -> z.keeps(0, 1));
+    check.fails("51: too many", Check.ARGUMENT, () -> z.keeps(0, 1));
     map(z, 0, 0);
-    check.fails("51: too few", ARGUMENT, () -> z.keeps(0, 1));
+    check.fails("51: too few", Check.ARGUMENT, () -> z.keeps(0, 1));
     map(z, 0, 0, 4);
-    check.fails("51: no value", ARGUMENT, () -> z.keeps(0, 1));
+    check.fails("51: no value", Check.ARGUMENT, () -> z.keeps(0, 1));
     map(z, 0, 0, 3);
-    check.fails("51: no value there", ARGUMENT, () -> z.keeps(0, 0));
-    check.fails("51: the first", INDEX, () -> z.keeps(2, 0));
-    check.fails("51: the second", INDEX, () -> z.keeps(0, -1));
+    check.fails("51: no value there", Check.ARGUMENT, () -> z.keeps(0, 0));
+    check.fails("51: the first", Check.INDEX, () -> z.keeps(2, 0));
+    check.fails("51: the second", Check.INDEX, () -> z.keeps(0, -1));
     map(z);
-    check.fails("51: none at all", ARGUMENT, () -> z.keeps(0, 0));
+    check.fails("51: none at all", Check.ARGUMENT, () -> z.keeps(0, 0));
   }
 
   private static void adjoint() {
@@ -82,25 +74,25 @@ public final class MapsTest {
       check.is("52: of " + y, z.adjoint(0, 1, y), due[y]);
     }
     map(z, 1, 2, 3);
-    check.fails("52: none for 0", NONE, () -> z.adjoint(0, 1, 0));
-    check.fails("52: so none for any", NONE, () -> z.adjoint(0, 1, 4));
+    check.fails("52: none for 0", Check.NONE, () -> z.adjoint(0, 1, 0));
+    check.fails("52: so none for any", Check.NONE, () -> z.adjoint(0, 1, 4));
     map(z, 2, 1, 0);
-    check.fails("52: not kept", ARGUMENT, () -> z.adjoint(0, 1, 0));
-    check.fails("52: the element first", INDEX, () -> z.adjoint(0, 1, 5));
-    check.fails("52: an element of the other one", INDEX, () -> z.adjoint(1, 0, 3));
-    check.fails("52: too few", ARGUMENT, () -> z.adjoint(1, 0, 2));
+    check.fails("52: not kept", Check.ARGUMENT, () -> z.adjoint(0, 1, 0));
+    check.fails("52: the element first", Check.INDEX, () -> z.adjoint(0, 1, 5));
+    check.fails("52: an element of the other one", Check.INDEX, () -> z.adjoint(1, 0, 3));
+    check.fails("52: too few", Check.ARGUMENT, () -> z.adjoint(1, 0, 2));
     map(z, 0, 0, 5);
-    check.fails("52: no value", ARGUMENT, () -> z.adjoint(0, 1, 4));
+    check.fails("52: no value", Check.ARGUMENT, () -> z.adjoint(0, 1, 4));
     map(z, 0, 2, 2);
     map(z, 0, 2);
-    check.fails("52: what was typed before is gone", ARGUMENT, () -> z.adjoint(0, 1, 4));
-    check.fails("52: the first", INDEX, () -> z.adjoint(2, 0, 0));
-    check.fails("52: the second", INDEX, () -> z.adjoint(0, 2, 0));
-    check.fails("52: negative", INDEX, () -> z.adjoint(0, 1, -1));
+    check.fails("52: what was typed before is gone", Check.ARGUMENT, () -> z.adjoint(0, 1, 4));
+    check.fails("52: the first", Check.INDEX, () -> z.adjoint(2, 0, 0));
+    check.fails("52: the second", Check.INDEX, () -> z.adjoint(0, 2, 0));
+    check.fails("52: negative", Check.INDEX, () -> z.adjoint(0, 1, -1));
     z.order(2);
     z.order(1);
     map(z, 0, 0);
-    check.fails("52: two under it, no greatest one", NONE, () -> z.adjoint(2, 3, 0));
+    check.fails("52: two under it, no greatest one", Check.NONE, () -> z.adjoint(2, 3, 0));
     map(z, 0);
     check.is("52: one", z.adjoint(3, 3, 0), 0);
   }
@@ -116,16 +108,16 @@ public final class MapsTest {
     check.is("53: all round", z.fixed(0, 3), 0);
     map(z, 5, 0, 1, 2, 3, 5);
     check.is("53: as long a way as can be", z.fixed(0, 4), 5);
-    check.fails("53: element", INDEX, () -> z.fixed(0, 6));
-    check.fails("53: negative", INDEX, () -> z.fixed(0, -1));
-    check.fails("53: order", INDEX, () -> z.fixed(1, 0));
+    check.fails("53: element", Check.INDEX, () -> z.fixed(0, 6));
+    check.fails("53: negative", Check.INDEX, () -> z.fixed(0, -1));
+    check.fails("53: order", Check.INDEX, () -> z.fixed(1, 0));
     map(z, 5, 0, 1, 2, 3, 6);
-    check.fails("53: no value", ARGUMENT, () -> z.fixed(0, 0));
+    check.fails("53: no value", Check.ARGUMENT, () -> z.fixed(0, 0));
     map(z, 5, 0, 1, 2, 3);
-    check.fails("53: too few", ARGUMENT, () -> z.fixed(0, 0));
-    check.fails("53: the element first", INDEX, () -> z.fixed(0, 6));
+    check.fails("53: too few", Check.ARGUMENT, () -> z.fixed(0, 0));
+    check.fails("53: the element first", Check.INDEX, () -> z.fixed(0, 6));
     map(z, 5, 0, 1, 2, 3, 4, 5);
-    check.fails("53: too many", ARGUMENT, () -> z.fixed(0, 0));
+    check.fails("53: too many", Check.ARGUMENT, () -> z.fixed(0, 0));
   }
 
   private static void core() {
@@ -151,8 +143,8 @@ public final class MapsTest {
     check.is("54: covered by one only", z.core(7), 1 << 5);
     Orders.of(z, 8, "04 05 14 15 42 43 52 53 60 61 70 71");
     check.is("54: covers and is covered by two", z.core(8), 255);
-    check.fails("54: order", INDEX, () -> z.core(9));
-    check.fails("54: negative", INDEX, () -> z.core(-1));
+    check.fails("54: order", Check.INDEX, () -> z.core(9));
+    check.fails("54: negative", Check.INDEX, () -> z.core(-1));
   }
 
   private static void alwaysFixed() {
@@ -172,12 +164,12 @@ public final class MapsTest {
     Orders.of(z, 6, "02 03 12 13 24 34 25 35");
     check.isFalse("55: a sphere", z.alwaysFixed(6));
     z.order(7);
-    check.fails("55: seven", UNSUPPORTED, () -> z.alwaysFixed(7));
+    check.fails("55: seven", Check.UNSUPPORTED, () -> z.alwaysFixed(7));
     map(z, 1, 0);
     check.isTrue("55: whatever is typed", z.alwaysFixed(0));
     check.is("55: which stays", z.wipe(), 2);
-    check.fails("55: order", INDEX, () -> z.alwaysFixed(8));
-    check.fails("55: negative", INDEX, () -> z.alwaysFixed(-1));
+    check.fails("55: order", Check.INDEX, () -> z.alwaysFixed(8));
+    check.fails("55: negative", Check.INDEX, () -> z.alwaysFixed(-1));
   }
 
   private static void embeds() {
@@ -204,8 +196,8 @@ public final class MapsTest {
     z.relate(7, 2, 3);
     z.order(11);
     check.isFalse("56: one too few, many ways to see it", z.embeds(8, 7));
-    check.fails("56: the first", INDEX, () -> z.embeds(9, 0));
-    check.fails("56: the second", INDEX, () -> z.embeds(0, -1));
+    check.fails("56: the first", Check.INDEX, () -> z.embeds(9, 0));
+    check.fails("56: the second", Check.INDEX, () -> z.embeds(0, -1));
   }
 
   private static void schedule() {
@@ -227,9 +219,9 @@ public final class MapsTest {
     check.is("57: as many as are ready", z.schedule(4, 4), 3);
     z.order(1);
     check.is("57: one", z.schedule(5, 7), 1);
-    check.fails("57: none", ARGUMENT, () -> z.schedule(0, 0));
-    check.fails("57: 13", ARGUMENT, () -> z.schedule(0, 13));
-    check.fails("57: order", INDEX, () -> z.schedule(6, 1));
-    check.fails("57: the order first", INDEX, () -> z.schedule(-1, 0));
+    check.fails("57: none", Check.ARGUMENT, () -> z.schedule(0, 0));
+    check.fails("57: 13", Check.ARGUMENT, () -> z.schedule(0, 13));
+    check.fails("57: order", Check.INDEX, () -> z.schedule(6, 1));
+    check.fails("57: the order first", Check.INDEX, () -> z.schedule(-1, 0));
   }
 }

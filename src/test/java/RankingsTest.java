@@ -1,7 +1,5 @@
 /** Promises 69 to 73: rankings, shares and soundness. */
 public final class RankingsTest {
-  private static final Class<IllegalArgumentException> ARGUMENT = IllegalArgumentException.class;
-  private static final Class<IndexOutOfBoundsException> INDEX = IndexOutOfBoundsException.class;
   private static final Check check = new Check("RankingsTest");
 
   public static void main(String[] args) {
@@ -19,13 +17,13 @@ public final class RankingsTest {
     check.is("69: then", z.prefer(0, 5, 0), 999);
     check.is("69: none again", z.prefer(0, 5, 3), 0);
     check.is("69: the other way", z.prefer(5, 0, 4), 0);
-    check.fails("69: one", ARGUMENT, () -> z.prefer(6, 0, 1));
-    check.fails("69: negative one", ARGUMENT, () -> z.prefer(-1, 0, 1));
-    check.fails("69: other", ARGUMENT, () -> z.prefer(0, 6, 1));
-    check.fails("69: negative other", ARGUMENT, () -> z.prefer(0, -1, 1));
-    check.fails("69: the same", ARGUMENT, () -> z.prefer(3, 3, 1));
-    check.fails("69: too many", ARGUMENT, () -> z.prefer(0, 5, 1000));
-    check.fails("69: negative", ARGUMENT, () -> z.prefer(0, 5, -1));
+    check.fails("69: one", Check.ARGUMENT, () -> z.prefer(6, 0, 1));
+    check.fails("69: negative one", Check.ARGUMENT, () -> z.prefer(-1, 0, 1));
+    check.fails("69: other", Check.ARGUMENT, () -> z.prefer(0, 6, 1));
+    check.fails("69: negative other", Check.ARGUMENT, () -> z.prefer(0, -1, 1));
+    check.fails("69: the same", Check.ARGUMENT, () -> z.prefer(3, 3, 1));
+    check.fails("69: too many", Check.ARGUMENT, () -> z.prefer(0, 5, 1000));
+    check.fails("69: negative", Check.ARGUMENT, () -> z.prefer(0, 5, -1));
     check.is("69: nothing changed", z.prefer(0, 5, 3), 3);
   }
 
@@ -67,11 +65,11 @@ public final class RankingsTest {
     y.prefer(4, 3, 6);
     check.is("70: five", ranked(y, 5), "01243:5");
     check.is("70: four after five", ranked(y, 4), "0123:0");
-    check.fails("70: none", ARGUMENT, () -> z.ranking(0, 0));
-    check.fails("70: seven", ARGUMENT, () -> z.ranking(7, 0));
-    check.fails("70: place", INDEX, () -> z.ranking(3, 3));
-    check.fails("70: negative place", INDEX, () -> z.ranking(3, -2));
-    check.fails("70: the number first", ARGUMENT, () -> z.ranking(0, -2));
+    check.fails("70: none", Check.ARGUMENT, () -> z.ranking(0, 0));
+    check.fails("70: seven", Check.ARGUMENT, () -> z.ranking(7, 0));
+    check.fails("70: place", Check.INDEX, () -> z.ranking(3, 3));
+    check.fails("70: negative place", Check.INDEX, () -> z.ranking(3, -2));
+    check.fails("70: the number first", Check.ARGUMENT, () -> z.ranking(0, -2));
   }
 
   private static void relatedShare() {
@@ -86,8 +84,8 @@ public final class RankingsTest {
     check.is("71: a third", z.relatedShare(3), 1f / 3f);
     z.order(1);
     check.fails("71: one", ArithmeticException.class, () -> z.relatedShare(4));
-    check.fails("71: order", INDEX, () -> z.relatedShare(5));
-    check.fails("71: negative", INDEX, () -> z.relatedShare(-1));
+    check.fails("71: order", Check.INDEX, () -> z.relatedShare(5));
+    check.fails("71: negative", Check.INDEX, () -> z.relatedShare(-1));
   }
 
   private static void meanIdeal() {
@@ -101,8 +99,8 @@ public final class RankingsTest {
     check.is("72: two above one", z.meanIdeal(2), 8.0 / 5.0);
     z.order(1);
     check.is("72: one", z.meanIdeal(3), 0.5);
-    check.fails("72: order", INDEX, () -> z.meanIdeal(4));
-    check.fails("72: negative", INDEX, () -> z.meanIdeal(-1));
+    check.fails("72: order", Check.INDEX, () -> z.meanIdeal(4));
+    check.fails("72: negative", Check.INDEX, () -> z.meanIdeal(-1));
   }
 
   private static void isSound() {

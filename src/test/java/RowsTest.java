@@ -1,12 +1,5 @@
-import java.util.NoSuchElementException;
-
 /** Promises 26 to 34: rows, questions, the dimension and orders of intervals. */
 public final class RowsTest {
-  private static final Class<IllegalArgumentException> ARGUMENT = IllegalArgumentException.class;
-  private static final Class<IndexOutOfBoundsException> INDEX = IndexOutOfBoundsException.class;
-  private static final Class<NoSuchElementException> NONE = NoSuchElementException.class;
-  private static final Class<UnsupportedOperationException> UNSUPPORTED =
-      UnsupportedOperationException.class;
   private static final Check check = new Check("RowsTest");
 
   public static void main(String[] args) {
@@ -44,8 +37,8 @@ public final class RowsTest {
     check.is("26: one", z.rows(4), 1L);
     Orders.of(z, 3, "20");
     check.is("26: numbered downwards", z.rows(5), 3L);
-    check.fails("26: order", INDEX, () -> z.rows(6));
-    check.fails("26: negative", INDEX, () -> z.rows(-1));
+    check.fails("26: order", Check.INDEX, () -> z.rows(6));
+    check.fails("26: negative", Check.INDEX, () -> z.rows(-1));
   }
 
   private static void rowAt() {
@@ -60,14 +53,14 @@ public final class RowsTest {
     check.is("27: the first", row(z, 1, 0), "0123456789ab");
     check.is("27: the last", row(z, 1, 479001599L), "ba9876543210");
     check.is("27: one between", row(z, 1, 39916800L * 3 + 1), "30124567" + "89ba");
-    check.fails("27: no row", ARGUMENT, () -> z.rowAt(0, 6, 0));
-    check.fails("27: negative row", ARGUMENT, () -> z.rowAt(0, -1, 0));
-    check.fails("27: a row by its low bits", ARGUMENT, () -> z.rowAt(0, 1L << 32, 0));
-    check.fails("27: one more than the last", ARGUMENT, () -> z.rowAt(1, 479001600L, 0));
-    check.fails("27: place", INDEX, () -> z.rowAt(0, 0, 4));
-    check.fails("27: negative place", INDEX, () -> z.rowAt(0, 0, -1));
-    check.fails("27: the place first", INDEX, () -> z.rowAt(0, 6, 4));
-    check.fails("27: order", INDEX, () -> z.rowAt(2, 0, 0));
+    check.fails("27: no row", Check.ARGUMENT, () -> z.rowAt(0, 6, 0));
+    check.fails("27: negative row", Check.ARGUMENT, () -> z.rowAt(0, -1, 0));
+    check.fails("27: a row by its low bits", Check.ARGUMENT, () -> z.rowAt(0, 1L << 32, 0));
+    check.fails("27: one more than the last", Check.ARGUMENT, () -> z.rowAt(1, 479001600L, 0));
+    check.fails("27: place", Check.INDEX, () -> z.rowAt(0, 0, 4));
+    check.fails("27: negative place", Check.INDEX, () -> z.rowAt(0, 0, -1));
+    check.fails("27: the place first", Check.INDEX, () -> z.rowAt(0, 6, 4));
+    check.fails("27: order", Check.INDEX, () -> z.rowAt(2, 0, 0));
   }
 
   private static void promote() {
@@ -89,10 +82,10 @@ public final class RowsTest {
     check.is("28: chain", z.promote(3, 0), 0L);
     z.order(12);
     check.is("28: the last of many", row(z, 4, z.promote(4, 479001599L)), "a9876543210b");
-    check.fails("28: no row", ARGUMENT, () -> z.promote(0, 6));
-    check.fails("28: negative", ARGUMENT, () -> z.promote(0, -1));
-    check.fails("28: order", INDEX, () -> z.promote(5, 0));
-    check.fails("28: the order first", INDEX, () -> z.promote(-1, -1));
+    check.fails("28: no row", Check.ARGUMENT, () -> z.promote(0, 6));
+    check.fails("28: negative", Check.ARGUMENT, () -> z.promote(0, -1));
+    check.fails("28: order", Check.INDEX, () -> z.promote(5, 0));
+    check.fails("28: the order first", Check.INDEX, () -> z.promote(-1, -1));
   }
 
   private static void evacuate() {
@@ -112,10 +105,10 @@ public final class RowsTest {
     check.is("29: chain", z.evacuate(3, 0), 0L);
     z.order(1);
     check.is("29: one", z.evacuate(4, 0), 0L);
-    check.fails("29: no row", ARGUMENT, () -> z.evacuate(0, 24));
-    check.fails("29: negative", ARGUMENT, () -> z.evacuate(0, Long.MIN_VALUE));
-    check.fails("29: order", INDEX, () -> z.evacuate(5, 0));
-    check.fails("29: the order first", INDEX, () -> z.evacuate(-1, -1));
+    check.fails("29: no row", Check.ARGUMENT, () -> z.evacuate(0, 24));
+    check.fails("29: negative", Check.ARGUMENT, () -> z.evacuate(0, Long.MIN_VALUE));
+    check.fails("29: order", Check.INDEX, () -> z.evacuate(5, 0));
+    check.fails("29: the order first", Check.INDEX, () -> z.evacuate(-1, -1));
   }
 
   private static void jumps() {
@@ -132,8 +125,8 @@ public final class RowsTest {
     check.is("30: an N", z.jumps(4), 1);
     Orders.of(z, 4, "02 03 12 13");
     check.is("30: all above both", z.jumps(5), 2);
-    check.fails("30: order", INDEX, () -> z.jumps(6));
-    check.fails("30: negative", INDEX, () -> z.jumps(-1));
+    check.fails("30: order", Check.INDEX, () -> z.jumps(6));
+    check.fails("30: negative", Check.INDEX, () -> z.jumps(-1));
   }
 
   private static void balance() {
@@ -149,11 +142,11 @@ public final class RowsTest {
     Orders.of(z, 5, "01 12 23");
     check.is("31: the best pair, not the first", z.balance(4), 2L);
     Orders.chain(z, 3);
-    check.fails("31: chain", NONE, () -> z.balance(5));
+    check.fails("31: chain", Check.NONE, () -> z.balance(5));
     z.order(1);
-    check.fails("31: no pair at all", NONE, () -> z.balance(6));
-    check.fails("31: order", INDEX, () -> z.balance(7));
-    check.fails("31: negative", INDEX, () -> z.balance(-1));
+    check.fails("31: no pair at all", Check.NONE, () -> z.balance(6));
+    check.fails("31: order", Check.INDEX, () -> z.balance(7));
+    check.fails("31: negative", Check.INDEX, () -> z.balance(-1));
   }
 
   private static void questions() {
@@ -169,19 +162,19 @@ public final class RowsTest {
     Orders.of(z, 6, "01 12 34 45");
     check.is("32: two chains of 3 merged", z.questions(4), 5);
     z.order(5);
-    check.fails("32: 120 rows", UNSUPPORTED, () -> z.questions(5));
+    check.fails("32: 120 rows", Check.UNSUPPORTED, () -> z.questions(5));
     Orders.of(z, 5, "01 23");
     check.is("32: 30 rows", z.rows(6), 30L);
     check.is("32: just 30", z.questions(6), 5);
     Orders.of(z, 7, "01 12 34 45 56");
     check.is("32: 35 rows", z.rows(7), 35L);
-    check.fails("32: too many", UNSUPPORTED, () -> z.questions(7));
+    check.fails("32: too many", Check.UNSUPPORTED, () -> z.questions(7));
     z.order(1);
     check.is("32: one", z.questions(8), 0);
     z.order(2);
     check.is("32: two", z.questions(9), 1);
-    check.fails("32: order", INDEX, () -> z.questions(10));
-    check.fails("32: negative", INDEX, () -> z.questions(-1));
+    check.fails("32: order", Check.INDEX, () -> z.questions(10));
+    check.fails("32: negative", Check.INDEX, () -> z.questions(-1));
     z.clear();
     // Of these, no question halves all that are left again and again.
     Orders.of(z, 6, "01 03 12 14 25 34 35");
@@ -192,7 +185,7 @@ public final class RowsTest {
     check.is("32: one more than for 26 others", z.questions(1), 6);
     Orders.of(z, 6, "01 23 45");
     z.sum(2, 2, true);
-    check.fails("32: far too many", UNSUPPORTED, () -> z.questions(3));
+    check.fails("32: far too many", Check.UNSUPPORTED, () -> z.questions(3));
   }
 
   private static void dimension() {
@@ -218,11 +211,11 @@ public final class RowsTest {
       z.order(1);
     }
     z.order(7);
-    check.fails("33: seven", UNSUPPORTED, () -> z.dimension(6));
+    check.fails("33: seven", Check.UNSUPPORTED, () -> z.dimension(6));
     Orders.chain(z, 12);
-    check.fails("33: a long chain", UNSUPPORTED, () -> z.dimension(7));
-    check.fails("33: order", INDEX, () -> z.dimension(8));
-    check.fails("33: negative", INDEX, () -> z.dimension(-1));
+    check.fails("33: a long chain", Check.UNSUPPORTED, () -> z.dimension(7));
+    check.fails("33: order", Check.INDEX, () -> z.dimension(8));
+    check.fails("33: negative", Check.INDEX, () -> z.dimension(-1));
   }
 
   private static void isOfIntervals() {
@@ -248,7 +241,7 @@ public final class RowsTest {
     check.isFalse("34: three downwards", z.isOfIntervals(7, true));
     Orders.of(z, 4, "32 21");
     check.isFalse("34: three beside the first", z.isOfIntervals(8, true));
-    check.fails("34: order", INDEX, () -> z.isOfIntervals(9, true));
-    check.fails("34: negative", INDEX, () -> z.isOfIntervals(-1, false));
+    check.fails("34: order", Check.INDEX, () -> z.isOfIntervals(9, true));
+    check.fails("34: negative", Check.INDEX, () -> z.isOfIntervals(-1, false));
   }
 }
