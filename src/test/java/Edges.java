@@ -98,12 +98,23 @@ final class Edges {
     Zetaposet z = new Zetaposet();
     build.of(z);
     check.fails(where + what, due, () -> ask.of(z));
-    String left = untouched.computeIfAbsent(build, b -> {
+    is(what + ": " + CHANGES_NOTHING, Probe.of(z), untouched(build));
+  }
+
+  /** The call is answered, and leaves the object as one that was not asked. */
+  void onlyAsks(Build build, String what, Ask ask) {
+    Zetaposet z = new Zetaposet();
+    build.of(z);
+    check.isTrue(where + what + " is answered", ask.of(z) != null);
+    is(what + " only asks", Probe.of(z), untouched(build));
+  }
+
+  private String untouched(Build build) {
+    return untouched.computeIfAbsent(build, b -> {
       Zetaposet twin = new Zetaposet();
       b.of(twin);
       return Probe.of(twin);
     });
-    is(what + ": " + CHANGES_NOTHING, Probe.of(z), left);
   }
 
   /** Each number of a range is taken; those beside it, far ones and those that wrap are not. */

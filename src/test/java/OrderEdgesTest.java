@@ -12,6 +12,7 @@ public final class OrderEdgesTest {
     divisors();
     allDivisors();
     subsets();
+    madeAnew();
     dual();
     sum();
     product();
@@ -176,6 +177,28 @@ public final class OrderEdgesTest {
       edges.answers(made, "of " + n, z -> z.size(0), 1 << n);
       edges.answers(made, "all above none", z -> z.above(0, 0), (1 << (1 << n)) - 2);
       edges.answers(made, "none above all", z -> z.above(0, (1 << things) - 1), 0);
+    }
+  }
+
+  /** What was made before leaves nothing in what is made then. */
+  private static void madeAnew() {
+    Edges.Build[] befores = {
+      z -> z.divisors(60), z -> z.intervals(z.order(12)), z -> z.ideals(Orders.chain(z, 11)),
+      z -> z.cuts(Orders.chain(z, 12)), z -> z.part(z.order(12), 4094),
+      z -> z.doubled(Orders.chain(z, 6), 0, 5)
+    };
+    edges.of(5, "Adds the order of all subsets.");
+    for (Edges.Build before : befores) {
+      Edges.Build anew = z -> {
+        before.of(z);
+        z.clear();
+        z.subsets(3);
+        z.divisors(30);
+      };
+      edges.answers(anew, "none is below all", z -> z.above(0, 0), 254);
+      edges.answers(anew, "above the last thing", z -> z.above(0, 4), Orders.set(5, 6, 7));
+      edges.answers(anew, "1 divides all", z -> z.above(1, 0), 254);
+      edges.answers(anew, "5 divides three", z -> z.above(1, 3), Orders.set(5, 6, 7));
     }
   }
 

@@ -35,6 +35,7 @@ public final class TermsTest {
     cores();
     rankings();
     exceptions();
+    questionsAlone();
     edges.end();
   }
 
@@ -738,5 +739,48 @@ public final class TermsTest {
     edges.refuses(rich, "a thing, exploring", Check.INDEX, z -> z.cross(1, 0, true));
     edges.refuses(rich, "an order, no map", Check.INDEX, z -> z.adjoint(10, 0, 0));
     edges.refuses(rich, "a number, a place", Check.ARGUMENT, z -> z.ranking(0, 9));
+  }
+
+  private static void questionsAlone() {
+    Edges.Build rich = z -> {
+      Edges.SOME.of(z);
+      Orders.chain(z, 12);
+      z.order(12);
+      z.explore(3);
+      z.refuse(2);
+      z.accept();
+      z.type(0);
+      z.type(1);
+      z.type(2);
+      z.prefer(3, 1, 7);
+    };
+    edges.of(0, "Nothing is promised beyond the answers and state changes described above, and "
+        + "nothing about an object after its 512th call.");
+    edges.answers(rich, "it is as it should be", z -> z.question(true), 3);
+    Edges.Ask[] asks = {
+      z -> z.size(1), z -> z.above(1, 0), z -> z.covers(2, 3), z -> z.rank(2, 3),
+      z -> z.isRanked(6), z -> z.areAlike(5, 6), z -> z.width(6), z -> z.antichain(6),
+      z -> z.inChains(6, 3), z -> z.chains(5), z -> z.isSymmetric(5), z -> z.moebius(2, 0, 3),
+      z -> z.rowsBetween(5, 0, 11, 9), z -> z.euler(6), z -> z.characteristic(5, 2),
+      z -> z.rows(6), z -> z.rowAt(6, 5, 3), z -> z.promote(6, 5), z -> z.evacuate(6, 5),
+      z -> z.jumps(6), z -> z.balance(6), z -> z.questions(2), z -> z.dimension(2),
+      z -> z.isOfIntervals(6, true), z -> z.isLattice(2), z -> z.join(2, 1, 2),
+      z -> z.meet(2, 1, 2), z -> z.isOfKind(2, 'g'), z -> z.joined(5), z -> z.congruences(5),
+      z -> z.idealCount(6), z -> z.toggle(6, 5, 1), z -> z.turn(6, 5), z -> z.orbit(6, 5, true),
+      z -> z.keeps(1, 5), z -> z.adjoint(1, 1, 0), z -> z.fixed(1, 0), z -> z.core(5),
+      z -> z.alwaysFixed(1), z -> z.embeds(1, 6), z -> z.schedule(6, 5), z -> z.concepts(),
+      z -> z.conceptAt(1, true), z -> z.implications(), z -> z.implicationAt(1, false),
+      z -> z.question(false), z -> z.ranking(6, 5), z -> z.relatedShare(6), z -> z.meanIdeal(6),
+      z -> z.isSound()
+    };
+    for (int i = 0; i < asks.length; i++) {
+      Edges.Ask ask = asks[i];
+      edges.onlyAsks(rich, "call " + i, ask);
+      edges.answers(rich, "rules, values, who prefer, things and orders after call " + i, z -> {
+        ask.of(z);
+        return z.accept() + " " + z.wipe() + " " + z.prefer(3, 1, 0) + " " + z.table(0, 1) + " "
+            + z.clear();
+      }, "2 3 7 1 7");
+    }
   }
 }
