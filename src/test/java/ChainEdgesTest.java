@@ -41,7 +41,7 @@ public final class ChainEdgesTest {
     Edges.Build six = z -> Orders.of(z, 12, "01 23 45 67 89 ab");
     edges.answers(six, "of 64 that with the least number", z -> z.antichain(0), 1365);
     Edges.Build late = z -> Orders.of(z, 12, "01 02");
-    edges.answers(late, "the greatest, though others have lower numbers", z -> z.antichain(0), 4094);
+    edges.answers(late, "the greatest, though it leaves out 0", z -> z.antichain(0), 4094);
     Edges.Build roof = z -> Orders.of(z, 12, "0b 1b 2b 3b 4b 5b 6b 7b 8b 9b a0");
     edges.answers(roof, "the first ten, not the next ten", z -> z.antichain(0), 1023);
   }
